@@ -14,6 +14,7 @@ public final class OutlookOdds {
     private static final int MOST_FISH = 100000;
     private static final int MOST_WEIGHT = 10000;
     private static final int MOST_LIMIT = 2000000000;
+    private static final int MOST_MARK = 2147483647;
     private static final int MOST_RATE = 900;
     private static final int MOST_SPREAD = 50;
     private static final int MOST_DELAY = 3;
@@ -114,7 +115,7 @@ public final class OutlookOdds {
     }
 
     public int mark(int v) throws IllegalArgumentException {
-        requireNumber(v, 0, Integer.MAX_VALUE);
+        requireNumber(v, 0, MOST_MARK);
         int was = massMark;
         massMark = v;
         return was;

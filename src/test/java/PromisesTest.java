@@ -15,6 +15,8 @@ public final class PromisesTest {
         draw();
         run();
         yearOfASeed();
+        caughtIsNotTheCatch();
+        lastFish();
         greatestNumbers();
         told();
         below();
@@ -28,7 +30,7 @@ public final class PromisesTest {
         Check.end();
     }
 
-    /** One age of fish that all are ripe, never die and weigh 1 till they are of age 5: the MASS is their number. */
+    /** Fish of age 0 that are ripe at once, never die and weigh 1 at every age: the MASS is their number. */
     private static OutlookOdds plain(int number) {
         OutlookOdds x = new OutlookOdds();
         for (int age = 0; age < 6; age++) {
@@ -353,6 +355,39 @@ public final class PromisesTest {
         Check.same("they stay on", y.told(0, 3, 0), 30);
     }
 
+    /** TAKEN is rounded down, so that of a CATCH of 505, 255 and 130 are CAUGHT 500, 250 and 130. */
+    private static void caughtIsNotTheCatch() {
+        OutlookOdds x = new OutlookOdds();
+        for (int age = 0; age < 6; age++) {
+            x.age(age, age == 0 ? 101 : 0, 10, 1000, 0);
+        }
+        x.rule(0, 0, 500);
+        tellsCatches("CATCH", x, 505, 255, 130);
+        Check.same("CAUGHT of year 1", x.told(0, 1, 1), 500);
+        Check.same("CAUGHT of year 2", x.told(0, 2, 1), 250);
+        Check.same("CAUGHT of year 3", x.told(0, 3, 1), 130);
+        Check.same("steady of CAUGHT", x.steady(0), 250 + 120);
+        Check.same("mean of CAUGHT, above", x.mean(0, 0), 880);
+        Check.same("mean of CAUGHT, below", x.mean(0, 1), 3);
+        Check.same("table of CAUGHT", x.table(10), 880);
+        x.change(100);
+        // Limits go by the CATCH of the year before: 505 - 50, 455 - 45, but never more than TOTAL.
+        x.run(0, 2, 1);
+        Check.same("CHANGE of the CATCH", x.told(0, 2, 2), 455);
+    }
+
+    private static void lastFish() {
+        OutlookOdds x = new OutlookOdds();
+        x.age(0, 10, 1, 1000, 800);
+        x.age(1, 0, 1, 1000, 0);
+        x.age(2, 0, 1, 1000, 0);
+        x.rule(0, 0, 500);
+        x.change(0);
+        tellsCatches("CATCH to the last fish", x, 5, 1, 0);
+        Check.same("a TOTAL of 1 is caught", x.told(0, 2, 1), 1);
+        Check.same("of a TOTAL of 0 nothing is", x.told(0, 3, 1), 0);
+    }
+
     private static void greatestNumbers() {
         OutlookOdds x = new OutlookOdds();
         for (int age = 0; age < 6; age++) {
@@ -598,6 +633,15 @@ public final class PromisesTest {
         y.run(0, 1, 1);
         // 2 of 3 are taken only from a CATCH of 2 on, that is from a rate of 667 on: 700 is the least of the table.
         Check.same("top is the least k of several", y.top(), 14);
+
+        OutlookOdds z = new OutlookOdds();
+        z.age(0, 100, 1, 1000, 0);
+        z.age(1, 0, 1000, 1, 0);
+        z.rule(95, 95, 0);
+        z.run(0, 2, 1);
+        // A rate above 50 leaves fewer than 95, for which the rule allows nothing when they are heavy.
+        Check.same("top of a rule with a LOW", z.top(), 1);
+        Check.same("table of a rule with a LOW", z.table(1), 5 + 4000);
     }
 
     private static void count() {
