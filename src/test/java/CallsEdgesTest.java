@@ -495,6 +495,13 @@ public final class CallsEdgesTest {
         Check.same("steady of one year", x.steady(0), 0);
         x.run(0, 20, 1);
         Check.same("steady of no CAUGHT", x.steady(0), 0);
+        OutlookOdds y = new OutlookOdds();
+        for (int age = 0; age < 5; age++) {
+            y.age(age, 100000, 10000, 1000, 1000);
+        }
+        y.rule(0, 0, 500);
+        y.run(0, 2, 1);
+        Check.same("steady to nothing, beyond an int", y.steady(0), 2500000000L);
     }
 
     private static void recoversPlaces() {
@@ -699,6 +706,8 @@ public final class CallsEdgesTest {
         topOf(6, 17);
         topOf(7, 18);
         topOf(10, 18);
+        topOfALow(1, 95, 100, 1, 1000);
+        topOfALow(18, 99900, 10000, 10, 10000);
         OutlookOdds y = Stocks.plain(1000);
         y.rule(0, 0, 0);
         y.run(0, 20, 16);
@@ -708,6 +717,16 @@ public final class CallsEdgesTest {
         Check.same("the table beyond", y.table(18), 16 * 999);
         Check.same("the table before", y.table(9) < 16 * 999 ? 1 : 0, 1);
         Check.same("top is no RUN", y.count(3), 1);
+    }
+
+    /** Fish that are heavy in year 2, but caught then only if enough were left: at 50 or less, or at 1 or less. */
+    private static void topOfALow(int due, int low, int fish, int weight, int weightThen) {
+        OutlookOdds x = new OutlookOdds();
+        x.age(0, fish, weight, 1000, 0);
+        x.age(1, 0, weightThen, 1, 0);
+        x.rule(low, low, 0);
+        x.run(0, 2, 1);
+        Check.same("top of " + fish + " fish at a LOW of " + low, x.top(), due);
     }
 
     private static void topOf(int fish, int due) {

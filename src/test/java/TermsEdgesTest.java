@@ -273,6 +273,11 @@ public final class TermsEdgesTest {
         draws(32768, 0, 0, 50242);
         draws(65535, 0, 0, 89271);
         draws(65535, 0, 0, -48727);
+        // What is shifted out is 0, or all of 16 bits.
+        draws(1511, 0, 0, 39218);
+        draws(41040, 0, 0, 104754);
+        draws(26162, 0, 0, 857);
+        draws(39684, 0, 0, 131929);
     }
 
     // Terms: a year of a seed
