@@ -1,4 +1,6 @@
+import java.util.ArrayList;
 import java.util.List;
+import java.util.function.Consumer;
 import java.util.function.Supplier;
 
 /** Promises 1 to 18: the last number that each call allows and the first that it does not, on both sides. */
@@ -9,6 +11,9 @@ public final class CallsEdgesTest {
     private static final int MASS = 0;
     private static final int CATCH = 2;
     private static final int SEEN = 3;
+
+    /** What the greatest RUN tells of each seed, where no call was refused. */
+    private static final List<List<String>> GREAT = portraitsOfGreat();
 
     public static void main(String[] args) {
         newObjectHasNoFishAndNoRule();
@@ -32,6 +37,7 @@ public final class CallsEdgesTest {
         runAnswersSeedsOnce();
 
         noRunComesFirst();
+        otherCallsRefusedByGreat();
         toldPlaces();
         belowPlaces();
         steadyPlaces();
@@ -437,7 +443,7 @@ public final class CallsEdgesTest {
         return x;
     }
 
-    /** A RUN of 20 years and 16 seeds; too great for a portrait, so that places alone are asked of it. */
+    /** A RUN of 20 years and 16 seeds. */
     private static OutlookOdds great() {
         OutlookOdds x = Stocks.ran();
         x.run(0, 20, 16);
@@ -445,12 +451,42 @@ public final class CallsEdgesTest {
     }
 
     private static void noSuchOfGreat(String what, int least, int most, Place call) {
-        OutlookOdds x = great();
         for (int out : Refused.outside(least, most)) {
-            Check.noSuchPlace(what + " " + out + " of the greatest RUN", () -> call.at(x, out));
+            refusedByGreat("IndexOutOfBoundsException", what + " " + out, x -> call.at(x, out));
         }
-        call.at(x, least);
-        call.at(x, most);
+        OutlookOdds x = great();
+        for (int in : new int[] {least, most}) {
+            Check.same(what + " " + in, Check.thrownBy(() -> call.at(x, in)), "nothing thrown");
+        }
+    }
+
+    /** Seed by seed, each asked of an object of its own, so that none is used for more than 512 calls. */
+    private static void refusedByGreat(String due, String what, Consumer<OutlookOdds> call) {
+        for (int seed = 0; seed < 16; seed++) {
+            OutlookOdds x = great();
+            Check.same(what + " of the greatest RUN", Check.thrownBy(() -> call.accept(x)), due);
+            String difference = Refused.firstDifference(Stocks.portraitOfSeed(x, seed), GREAT.get(seed));
+            Check.same("seed " + seed + " after a refused " + what, difference, "no difference");
+        }
+    }
+
+    private static List<List<String>> portraitsOfGreat() {
+        List<List<String>> all = new ArrayList<>();
+        for (int seed = 0; seed < 16; seed++) {
+            all.add(Stocks.portraitOfSeed(great(), seed));
+        }
+        return all;
+    }
+
+    /** What is refused for another reason than a place. */
+    private static void otherCallsRefusedByGreat() {
+        refusedByGreat("IndexOutOfBoundsException", "age 6", x -> x.age(6, 1, 1, 1, 1));
+        refusedByGreat("IllegalArgumentException", "die 1001", x -> x.age(5, 1, 1, 1, 1001));
+        refusedByGreat("IllegalArgumentException", "rate 901", x -> x.rule(0, 0, 901));
+        refusedByGreat("IndexOutOfBoundsException", "rule 3 of three", x -> x.run(3, 1, 1));
+        refusedByGreat("IllegalArgumentException", "run of 21 years", x -> x.run(1, 21, 1));
+        refusedByGreat("IllegalArgumentException", "run of 17 seeds", x -> x.run(1, 1, 17));
+        refusedByGreat("IllegalArgumentException", "span 21", x -> x.recovers(15, 21));
     }
 
     /** Seeds 0 .. 2, years 1 .. 4, whats 0 .. 3. */
@@ -471,6 +507,7 @@ public final class CallsEdgesTest {
         noSuch("below, part", 0, 1, Stocks::ran, (x, n) -> x.below(4, n));
         noSuch("below of one year", 1, 1, CallsEdgesTest::small, (x, n) -> x.below(n, 0));
         noSuchOfGreat("below, year", 1, 20, (x, n) -> x.below(n, 0));
+        noSuchOfGreat("below, part", 0, 1, (x, n) -> x.below(20, n));
     }
 
     private static void steadyPlaces() {
@@ -588,6 +625,7 @@ public final class CallsEdgesTest {
         noSuch("mean, what", 0, 1, Stocks::ran, (x, n) -> x.mean(n, 0));
         noSuch("mean, part", 0, 1, Stocks::ran, (x, n) -> x.mean(1, n));
         noSuch("mean of one year, what", 0, 1, CallsEdgesTest::small, (x, n) -> x.mean(n, 1));
+        noSuchOfGreat("mean, what", 0, 1, (x, n) -> x.mean(n, 0));
         noSuchOfGreat("mean, part", 0, 1, (x, n) -> x.mean(0, n));
     }
 
@@ -610,6 +648,7 @@ public final class CallsEdgesTest {
     /** k is "0 .. 18". */
     private static void tablePlaces() {
         noSuch("table", 0, 18, Stocks::ran, (x, n) -> x.table(n));
+        noSuchOfGreat("table", 0, 18, (x, n) -> x.table(n));
         noSuch("table of one year", 0, 18, CallsEdgesTest::small, (x, n) -> x.table(n));
         OutlookOdds x = Stocks.plain(1000);
         x.rule(0, 0, 333);

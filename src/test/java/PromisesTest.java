@@ -1,3 +1,5 @@
+import java.util.Arrays;
+
 /** Each promise by hand-worked answers: ordinary inputs, the edges that the document names, wrong inputs. */
 public final class PromisesTest {
     private static final int[] OUTSIDE = {Integer.MIN_VALUE, -1, Integer.MAX_VALUE};
@@ -115,9 +117,11 @@ public final class PromisesTest {
         x.run(0, 20, 16);
         // draw(0, 1, 0) is 9806, and 9806 modulo 101 is 9.
         Check.same("young of seed 0 after year 1", x.told(0, 2, 0), 590);
+        // Drawn by another object, since beyond 512 calls of one nothing is promised.
+        OutlookOdds other = new OutlookOdds();
         for (int seed = 0; seed < 16; seed++) {
             for (int year = 2; year <= 20; year++) {
-                Check.same("young of seed " + seed + " in " + year, x.told(seed, year, 0), born(x, seed, year - 1));
+                Check.same("young of seed " + seed + " in " + year, x.told(seed, year, 0), born(other, seed, year - 1));
             }
         }
         Check.same("a wrong young changes nothing", x.young(3), 1000);
@@ -519,17 +523,10 @@ public final class PromisesTest {
         OutlookOdds x = youngOnly(7, 1000);
         Check.wrongState("rank before a run", () -> x.rank(1, 0));
         Check.wrongState("rank before a run, of nothing", () -> x.rank(0, -1));
-        x.run(0, 20, 16);
         for (int year = 1; year <= 20; year++) {
-            long[] masses = new long[16];
-            for (int seed = 0; seed < 16; seed++) {
-                masses[seed] = x.told(seed, year, 0);
-            }
-            java.util.Arrays.sort(masses);
-            for (int k = 0; k < 16; k++) {
-                Check.same("rank(" + year + ", " + k + ")", x.rank(year, k), masses[k]);
-            }
+            ranksOfAYear(year);
         }
+        x.run(0, 20, 16);
         x.run(0, 2, 3);
         Check.same("rank in a later run", x.rank(1, 2), 7);
         for (int out : OUTSIDE) {
@@ -539,6 +536,20 @@ public final class PromisesTest {
         Check.noSuchPlace("rank in year 0", () -> x.rank(0, 0));
         Check.noSuchPlace("rank in year 3 of 2", () -> x.rank(3, 0));
         Check.noSuchPlace("rank at place 3 of 3", () -> x.rank(1, 3));
+    }
+
+    /** Each year has an object of its own, since beyond 512 calls of one nothing is promised. */
+    private static void ranksOfAYear(int year) {
+        OutlookOdds x = youngOnly(7, 1000);
+        x.run(0, 20, 16);
+        long[] masses = new long[16];
+        for (int seed = 0; seed < 16; seed++) {
+            masses[seed] = x.told(seed, year, 0);
+        }
+        Arrays.sort(masses);
+        for (int k = 0; k < 16; k++) {
+            Check.same("rank(" + year + ", " + k + ")", x.rank(year, k), masses[k]);
+        }
     }
 
     private static void mean() {

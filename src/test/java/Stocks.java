@@ -90,7 +90,7 @@ final class Stocks {
             int w = what;
             tell(all, "count(" + w + ")", () -> x.count(w));
         }
-        tellRun(all, x, Math.max(1, x.count(1)), Math.max(1, x.count(2)));
+        tellRun(all, x, Math.max(1, x.count(1)), 0, Math.max(1, x.count(2)));
         tellSettings(all, x);
         int rules = x.count(0);
         for (int rule = 0; rule < rules; rule++) {
@@ -100,11 +100,23 @@ final class Stocks {
         return all;
     }
 
-    /** Of what the RUN told; without one, that each of these calls is refused. */
-    private static void tellRun(List<String> all, OutlookOdds x, int years, int seeds) {
+    /** What an object tells of one seed of its RUN: of the greatest RUN, all seeds together would pass 512 calls. */
+    static List<String> portraitOfSeed(OutlookOdds x, int seed) {
+        List<String> all = new ArrayList<>();
+        for (int what = 0; what <= 3; what++) {
+            int w = what;
+            tell(all, "count(" + w + ")", () -> x.count(w));
+        }
+        tellRun(all, x, x.count(1), seed, seed + 1);
+        tellSettings(all, x);
+        return all;
+    }
+
+    /** Of what the RUN told of seeds from the first to before the end; without a RUN, that all of it is refused. */
+    private static void tellRun(List<String> all, OutlookOdds x, int years, int first, int end) {
         for (int i = 1; i <= years; i++) {
             int year = i;
-            for (int j = 0; j < seeds; j++) {
+            for (int j = first; j < end; j++) {
                 int seed = j;
                 for (int k = 0; k < 4; k++) {
                     int what = k;
@@ -115,7 +127,7 @@ final class Stocks {
             tell(all, "below(" + year + ", 0)", () -> x.below(year, 0));
             tell(all, "below(" + year + ", 1)", () -> x.below(year, 1));
         }
-        for (int j = 0; j < seeds; j++) {
+        for (int j = first; j < end; j++) {
             int seed = j;
             tell(all, "steady(" + seed + ")", () -> x.steady(seed));
             tell(all, "recovers(" + seed + ", 2)", () -> x.recovers(seed, 2));

@@ -122,6 +122,15 @@ public final class TermsEdgesTest {
         x.run(0, 2, 1);
         Check.same("age 0 alone, year 1", x.told(0, 1, MASS), 35);
         Check.same("age 0 alone, year 2", x.told(0, 2, MASS), 0);
+        // Ages 1 to 4 were never told: there fish weigh nothing, none is caught, and none dies.
+        x.age(5, 0, 1, 1000, 0);
+        x.age(0, 1000, 0, 1000, 0);
+        x.run(0, 6, 1);
+        for (int year = 1; year <= 5; year++) {
+            Check.same("ages never told, MASS in year " + year, x.told(0, year, MASS), 0);
+            Check.same("ages never told, CATCH in year " + year, x.told(0, year, CATCH), 0);
+        }
+        Check.same("none died on the way", x.told(0, 6, MASS), 1000);
     }
 
     // Terms: a RULE
